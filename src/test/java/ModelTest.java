@@ -615,10 +615,10 @@ public final class ModelTest {
         }
 
         private void setUp(int dice, Memory m) {
-            if (dice < 1) {
+            if (dice < 2) {
                 int n = around(1, 4);
                 due("side(" + n + ")", square.side(n), model.side(n));
-            } else if (dice < 3) {
+            } else if (dice < 5) {
                 int rows = around(1, 6);
                 int inner = around(1, 6);
                 int columns = around(1, 6);
@@ -646,7 +646,9 @@ public final class ModelTest {
                 int column = around(0, m.side);
                 due("leave(" + column + ")", square.leave(column), model.leave(column));
             } else if (dice < 47) {
-                due("undo()", square.undo(), model.undo());
+                for (int many = 1 + below(3); many > 0; many--) {
+                    due("undo()", square.undo(), model.undo());
+                }
             } else if (dice < 48) {
                 due("best()", square.best(), model.best());
             } else {

@@ -35,6 +35,7 @@ public final class PromisesTest {
         best();
         undo();
         undoOfEachChange();
+        undoBackIntoATile();
         type();
         clearText();
         textFaultReasonOne();
@@ -629,6 +630,15 @@ public final class PromisesTest {
         due("at work", x.best(), 0);
         due("nothing changed", x.count(5), 1);
         due("still at work", x.count(6), 1);
+        x.side(2);
+        x.fault(0, 0, 2);
+        x.fault(1, 2, 2);
+        x.fault(0, 2, 2);
+        x.fault(1, 1, 2);
+        due("3, 3, 2", x.best(), 2);
+        x.fault(0, 1, 2);
+        x.fault(0, 2, 0);
+        due("3, 2, 3", x.best(), 1);
         x.side(1);
         x.fault(0, 1, 1);
         due("side 1", x.best(), 1);
@@ -713,6 +723,28 @@ public final class PromisesTest {
         due("right again", x.entry(1, 1, 1), 8);
         due("known again", x.count(11), 4);
         due("the text stays", x.count(15), 5);
+    }
+
+    private static void undoBackIntoATile() {
+        SkewedSquare x = new SkewedSquare();
+        readLeftAndRight(x, "1,2;3,4;5,6", "1,2,3;4,5,6");
+        x.begin(0, 0);
+        x.tick(2);
+        x.side(2);
+        x.begin(1, 1);
+        due("undo of begin", x.undo(), 3);
+        due("no tile", x.count(6), 0);
+        due("undo of side", x.undo(), 2);
+        counts("back in the tile", x, 2, 3, 2, 3, 4, 2, 1, 0, 0, 2, 2, 0, 0, 0, 2, 11);
+        due("a sum", x.cellOf(0, 0, 0), 9);
+        due("products", x.cellOf(0, 1, 5), 1);
+        due("on its way", x.cellOf(0, 0, 1), 2);
+        due("on its way", x.cellOf(0, 0, 2), 4);
+        due("goes on", x.tick(20), 0);
+        due("every cell", x.drain(), 4);
+        due("result(0, 1)", x.result(0, 1, 0), 12);
+        due("result(1, 1)", x.result(1, 1, 0), 26);
+        due("none is wrong", x.count(12), 0);
     }
 
     private static void type() {
