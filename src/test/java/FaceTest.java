@@ -24,38 +24,38 @@ public final class FaceTest {
     private static final List<String> CONSTANTS = List.of(
         "INVALID_ARGUMENT", "NOT_POSSIBLE", "LIMIT_REACHED", "NOT_FOUND");
     private static final List<String> FORBIDDEN = List.of(
-        "throw", "throws", "try", "catch", "finally", "synchronized", "assert", "record", "protected",
-        "package", "volatile", "transient", "native", "Exception", "Error", "System.out", "->", "::");
+        "throw", "throws", "try", "catch", "finally", "synchronized", "assert", "protected",
+        "package", "volatile", "transient", "native", "Exception", "Error", "System.out", "::");
+    private static final List<String> IMPORTS = List.of(
+        "import java.util.ArrayList;", "import java.util.Arrays;", "import java.util.Iterator;",
+        "import java.util.List;");
+    // An arrow that doesn't stand behind a case is a lambda's.
+    private static final Pattern LAMBDA = Pattern.compile("(?m)^(?!\\s*(case\\b|default\\b)).*->");
 
     private FaceTest() {
     }
 
-    public static void main(String[] args) throws IOException {
-        constants();
-        classItself();
-        members();
-        nestedClasses();
-        words();
-        Check.end();
+    public static void main(String[] args) {
+        Check.runTestsOf(FaceTest.class);
     }
 
-    private static void constants() {
+    static void constants() {
         Check.due("INVALID_ARGUMENT", SkewedSquare.INVALID_ARGUMENT, -1000001);
         Check.due("NOT_POSSIBLE", SkewedSquare.NOT_POSSIBLE, -1000002);
         Check.due("LIMIT_REACHED", SkewedSquare.LIMIT_REACHED, -1000003);
         Check.due("NOT_FOUND", SkewedSquare.NOT_FOUND, -1000004);
     }
 
-    private static void classItself() {
+    static void classItself() {
         int modifiers = SkewedSquare.class.getModifiers();
-        truth("the class is public", Modifier.isPublic(modifiers));
-        truth("the class is final", Modifier.isFinal(modifiers));
-        truth("the class has no package", SkewedSquare.class.getPackageName().isEmpty());
+        Check.truth("the class is public", Modifier.isPublic(modifiers));
+        Check.truth("the class is final", Modifier.isFinal(modifiers));
+        Check.truth("the class has no package", SkewedSquare.class.getPackageName().isEmpty());
         Check.due("constructors", SkewedSquare.class.getDeclaredConstructors().length, 1);
         Check.due("public constructors", SkewedSquare.class.getConstructors().length, 1);
     }
 
-    private static void members() {
+    static void members() {
         Set<String> open = new TreeSet<>();
         Set<String> openNames = new HashSet<>();
         for (Method method : SkewedSquare.class.getDeclaredMethods()) {
@@ -64,11 +64,11 @@ public final class FaceTest {
             }
             open.add(method.getName() + parameters(method));
             openNames.add(method.getName());
-            truth(method.getName() + " is public", Modifier.isPublic(method.getModifiers()));
-            truth(method.getName() + " answers an int", method.getReturnType() == int.class);
-            truth(method.getName() + " is of an object", !Modifier.isStatic(method.getModifiers()));
+            Check.truth(method.getName() + " is public", Modifier.isPublic(method.getModifiers()));
+            Check.truth(method.getName() + " answers an int", method.getReturnType() == int.class);
+            Check.truth(method.getName() + " is of an object", !Modifier.isStatic(method.getModifiers()));
         }
-        truth("the methods are those of the document: " + open, open.equals(new TreeSet<>(METHODS)));
+        Check.truth("the methods are those of the document: " + open, open.equals(new TreeSet<>(METHODS)));
         privateNames(SkewedSquare.class, openNames);
         for (Class<?> inside : SkewedSquare.class.getDeclaredClasses()) {
             privateNames(inside, openNames);
@@ -79,38 +79,38 @@ public final class FaceTest {
                 fields.add(field.getName());
             }
         }
-        truth("the constants are those of the document: " + fields, fields.equals(new TreeSet<>(CONSTANTS)));
+        Check.truth("the constants are those of the document: " + fields, fields.equals(new TreeSet<>(CONSTANTS)));
     }
 
     private static void privateNames(Class<?> type, Set<String> openNames) {
         for (Method method : type.getDeclaredMethods()) {
-            if (type != SkewedSquare.class || isPrivate(method)) {
-                truth(type.getName() + "." + method.getName() + " has a name of its own",
+            if (isPrivate(method)) {
+                Check.truth(type.getName() + "." + method.getName() + " has a name of its own",
                     !openNames.contains(method.getName()));
             }
         }
     }
 
-    private static void nestedClasses() {
+    static void nestedClasses() {
         Class<?>[] inside = SkewedSquare.class.getDeclaredClasses();
-        truth("at most twelve classes", inside.length + 1 <= 12);
+        Check.truth("at most twelve classes", inside.length + 1 <= 12);
         for (Class<?> type : inside) {
-            truth(type.getName() + " is static", Modifier.isStatic(type.getModifiers()));
-            truth(type.getName() + " isn't public", !Modifier.isPublic(type.getModifiers()));
+            Check.truth(type.getName() + " is static", Modifier.isStatic(type.getModifiers()));
+            Check.truth(type.getName() + " isn't public", !Modifier.isPublic(type.getModifiers()));
             int fields = 0;
             for (Field field : type.getDeclaredFields()) {
                 fields += Modifier.isStatic(field.getModifiers()) ? 0 : 1;
-                truth(type.getName() + "." + field.getName() + ": static only if final",
+                Check.truth(type.getName() + "." + field.getName() + ": static only if final",
                     !Modifier.isStatic(field.getModifiers()) || Modifier.isFinal(field.getModifiers()));
             }
-            truth(type.getName() + " has at most twenty fields", fields <= 20);
+            Check.truth(type.getName() + " has at most twenty fields", fields <= 20);
             for (Method method : type.getDeclaredMethods()) {
-                truth(method + " takes at most seven parameters", method.getParameterCount() <= 7);
+                Check.truth(method + " takes at most seven parameters", method.getParameterCount() <= 7);
             }
         }
     }
 
-    private static void words() throws IOException {
+    static void words() throws IOException {
         String source = Files.readString(Path.of("src/main/java/SkewedSquare.java"));
         String code = source.replaceAll("//[^\n]*", "");
         for (String word : FORBIDDEN) {
@@ -118,13 +118,14 @@ public final class FaceTest {
                 ? Pattern.compile("\\b" + Pattern.quote(word) + "\\b")
                 : Pattern.compile(Pattern.quote(word));
             Matcher matcher = pattern.matcher(code);
-            truth("no word " + word, !matcher.find());
+            Check.truth("no word " + word, !matcher.find());
         }
+        Check.truth("no lambda", !LAMBDA.matcher(code).find());
         for (String line : code.split("\n")) {
-            truth("only java.util.Arrays is imported: " + line,
-                !line.startsWith("import") || line.equals("import java.util.Arrays;"));
+            Check.truth("only what rule 4 lists is imported: " + line,
+                !line.startsWith("import") || IMPORTS.contains(line.trim()));
         }
-        truth("the signs of the file are 1 to 127", source.chars().allMatch(sign -> sign >= 1 && sign <= 127));
+        Check.truth("the signs of the file are 1 to 127", source.chars().allMatch(sign -> sign >= 1 && sign <= 127));
     }
 
     private static boolean isPrivate(Member member) {
@@ -137,9 +138,5 @@ public final class FaceTest {
             names.append(names.length() > 1 ? "," : "").append(type.getName());
         }
         return names.append(")").toString();
-    }
-
-    private static void truth(String what, boolean holds) {
-        Check.due(what, holds ? 1 : 0, 1);
     }
 }

@@ -4,79 +4,18 @@ public final class PromisesTest {
     private static final int NOT_POSSIBLE = Check.NOT_POSSIBLE;
     private static final int LIMIT = Check.LIMIT;
     private static final int NOT_FOUND = Check.NOT_FOUND;
-    private static final int LEAST = Integer.MIN_VALUE;
-    private static final int MOST = Integer.MAX_VALUE;
+    private static final int LEAST = Check.LEAST;
+    private static final int MOST = Check.MOST;
 
     private PromisesTest() {
     }
 
     public static void main(String[] args) {
-        newObject();
-        side();
-        sideFromWork();
-        shape();
-        left();
-        right();
-        fault();
-        leave();
-        begin();
-        beginEmptiesCells();
-        tick();
-        drain();
-        all();
-        entry();
-        cellOf();
-        cellOfWithFaults();
-        result();
-        count();
-        suspects();
-        suspectsMissWhatCancels();
-        wouldBeWrong();
-        best();
-        undo();
-        undoOfEachChange();
-        undoBackIntoATile();
-        type();
-        clearText();
-        textFaultReasonOne();
-        textFaultReasonTwo();
-        textWithoutFault();
-        readLeft();
-        readRight();
-        readRefused();
-        orderOfErrors();
-        errorsChangeNothing();
-        Check.end();
+        Check.runTestsOf(PromisesTest.class);
     }
 
     private static void due(String what, long got, long want) {
         Check.due(what, got, want);
-    }
-
-    private static SkewedSquare withText(String text) {
-        SkewedSquare x = new SkewedSquare();
-        write(x, text);
-        return x;
-    }
-
-    private static void write(SkewedSquare x, String text) {
-        x.clearText();
-        for (char sign : text.toCharArray()) {
-            x.type(sign);
-        }
-    }
-
-    private static void readLeftAndRight(SkewedSquare x, String left, String right) {
-        write(x, left);
-        x.read(0);
-        write(x, right);
-        x.read(1);
-    }
-
-    private static void doTile(SkewedSquare x, int row, int column) {
-        x.begin(row, column);
-        x.tick(20);
-        x.drain();
     }
 
     private static void counts(String when, SkewedSquare x, int... wants) {
@@ -85,7 +24,7 @@ public final class PromisesTest {
         }
     }
 
-    private static void newObject() {
+    static void newObject() {
         SkewedSquare x = new SkewedSquare();
         counts("new", x, 2, 2, 2, 2, 1, 2, 0, NOT_FOUND, NOT_FOUND, NOT_FOUND, NOT_FOUND, 0, 0, 0, 0, 0);
         for (int i = 0; i < 2; i++) {
@@ -104,7 +43,7 @@ public final class PromisesTest {
         due("new: drain", x.drain(), NOT_POSSIBLE);
     }
 
-    private static void side() {
+    static void side() {
         SkewedSquare x = new SkewedSquare();
         for (int wrong : new int[] {0, 5, -1, LEAST, MOST}) {
             due("side(" + wrong + ")", x.side(wrong), INVALID);
@@ -128,7 +67,7 @@ public final class PromisesTest {
         due("no old fault", x.fault(3, 4, 0), 0);
     }
 
-    private static void sideFromWork() {
+    static void sideFromWork() {
         SkewedSquare x = new SkewedSquare();
         x.left(0, 0, 7);
         x.all();
@@ -142,7 +81,7 @@ public final class PromisesTest {
         due("cells without tile", x.cellOf(0, 0, 0), NOT_POSSIBLE);
     }
 
-    private static void shape() {
+    static void shape() {
         SkewedSquare x = new SkewedSquare();
         int[] wrongs = {0, 7, -1, LEAST, MOST};
         for (int wrong : wrongs) {
@@ -178,7 +117,7 @@ public final class PromisesTest {
         due("tiles of 3", x.shape(6, 6, 4), 4);
     }
 
-    private static void left() {
+    static void left() {
         SkewedSquare x = new SkewedSquare();
         x.shape(3, 4, 2);
         int states = x.count(14);
@@ -209,7 +148,7 @@ public final class PromisesTest {
         due("drained", x.left(0, 0, 1), 0);
     }
 
-    private static void right() {
+    static void right() {
         SkewedSquare x = new SkewedSquare();
         x.shape(2, 4, 3);
         int states = x.count(14);
@@ -238,7 +177,7 @@ public final class PromisesTest {
         due("at work, done", x.right(0, 0, 1), NOT_POSSIBLE);
     }
 
-    private static void fault() {
+    static void fault() {
         SkewedSquare x = new SkewedSquare();
         due("row 2", x.fault(2, 0, 1), INVALID);
         due("row -1", x.fault(-1, 0, 1), INVALID);
@@ -263,7 +202,7 @@ public final class PromisesTest {
         due("at work, wrong", x.fault(0, 0, 5), INVALID);
     }
 
-    private static void leave() {
+    static void leave() {
         SkewedSquare x = new SkewedSquare();
         due("column 3", x.leave(3), INVALID);
         due("column -1", x.leave(-1), INVALID);
@@ -287,7 +226,7 @@ public final class PromisesTest {
         due("leave(5)", x.leave(5), INVALID);
     }
 
-    private static void begin() {
+    static void begin() {
         SkewedSquare x = new SkewedSquare();
         x.shape(3, 4, 5);
         due("row 2", x.begin(2, 0), INVALID);
@@ -315,10 +254,10 @@ public final class PromisesTest {
         due("the greatest", x.begin(0, 0), 12);
     }
 
-    private static void beginEmptiesCells() {
+    static void beginEmptiesCells() {
         SkewedSquare x = new SkewedSquare();
-        readLeftAndRight(x, "1,2;3,4", "5,6;7,8");
-        doTile(x, 0, 0);
+        Given.readLeftAndRight(x, "1,2;3,4", "5,6;7,8");
+        Given.doTile(x, 0, 0);
         x.begin(0, 0);
         for (int i = 0; i < 2; i++) {
             for (int j = 0; j < 2; j++) {
@@ -330,7 +269,7 @@ public final class PromisesTest {
         }
     }
 
-    private static void tick() {
+    static void tick() {
         SkewedSquare x = new SkewedSquare();
         due("no tile", x.tick(1), NOT_POSSIBLE);
         due("no tile, wrong", x.tick(0), INVALID);
@@ -354,9 +293,9 @@ public final class PromisesTest {
         due("tick(20)", x.tick(20), 0);
     }
 
-    private static void drain() {
+    static void drain() {
         SkewedSquare x = new SkewedSquare();
-        readLeftAndRight(x, "1,2;3,4;5,6", "1,2,3;4,5,6");
+        Given.readLeftAndRight(x, "1,2;3,4;5,6", "1,2,3;4,5,6");
         due("no tile", x.drain(), NOT_POSSIBLE);
         x.begin(1, 1);
         due("not begun to tick", x.drain(), NOT_POSSIBLE);
@@ -373,21 +312,21 @@ public final class PromisesTest {
         due("the upper right one", x.drain(), 3);
         due("its entry", x.result(0, 2, 0), 15);
         due("its entry", x.result(1, 2, 0), 33);
-        doTile(x, 0, 1);
+        Given.doTile(x, 0, 1);
         due("the same again", x.count(11), 3);
-        doTile(x, 1, 0);
-        doTile(x, 0, 0);
+        Given.doTile(x, 1, 0);
+        Given.doTile(x, 0, 0);
         due("all", x.count(11), 9);
         due("none is wrong", x.count(12), 0);
         x.fault(0, 0, 1);
-        doTile(x, 0, 0);
+        Given.doTile(x, 0, 0);
         due("drained anew", x.result(0, 0, 0), 0);
         due("wrong now", x.count(12), 1);
     }
 
-    private static void all() {
+    static void all() {
         SkewedSquare x = new SkewedSquare();
-        readLeftAndRight(x, "1,2;3,4;5,6", "1,2,3;4,5,6");
+        Given.readLeftAndRight(x, "1,2;3,4;5,6", "1,2,3;4,5,6");
         due("all", x.all(), 4 + 3 + 3 + 2);
         due("no tile", x.count(6), 0);
         due("known", x.count(11), 9);
@@ -410,9 +349,9 @@ public final class PromisesTest {
         due("four tiles", x.all(), 12 + 10 + 10 + 8);
     }
 
-    private static void entry() {
+    static void entry() {
         SkewedSquare x = new SkewedSquare();
-        readLeftAndRight(x, "1,2;3,4;5,6", "7,8,9,10;11,12,13,14");
+        Given.readLeftAndRight(x, "1,2;3,4;5,6", "7,8,9,10;11,12,13,14");
         due("left", x.entry(0, 2, 1), 6);
         due("right", x.entry(1, 1, 3), 14);
         due("which 2", x.entry(2, 0, 0), INVALID);
@@ -428,9 +367,9 @@ public final class PromisesTest {
         due("at work", x.entry(0, 2, 1), 6);
     }
 
-    private static void cellOf() {
+    static void cellOf() {
         SkewedSquare x = new SkewedSquare();
-        readLeftAndRight(x, "2,3", "5;7");
+        Given.readLeftAndRight(x, "2,3", "5;7");
         for (int[] wrong : new int[][] {{2, 0, 0}, {-1, 0, 0}, {0, 2, 3}, {0, -1, 0}, {0, 0, 6}, {0, 0, -1}}) {
             due("wrong", x.cellOf(wrong[0], wrong[1], wrong[2]), INVALID);
         }
@@ -464,9 +403,9 @@ public final class PromisesTest {
         due("drained", x.cellOf(0, 0, 0), NOT_POSSIBLE);
     }
 
-    private static void cellOfWithFaults() {
+    static void cellOfWithFaults() {
         SkewedSquare x = new SkewedSquare();
-        readLeftAndRight(x, "2,3;4,5", "6,7;8,9");
+        Given.readLeftAndRight(x, "2,3;4,5", "6,7;8,9");
         x.fault(0, 0, 3);
         x.fault(0, 1, 4);
         x.fault(1, 0, 1);
@@ -501,9 +440,9 @@ public final class PromisesTest {
         due("wrong", x.count(12), 3);
     }
 
-    private static void result() {
+    static void result() {
         SkewedSquare x = new SkewedSquare();
-        readLeftAndRight(x, "99,99,99,99,99,99", "99;99;99;99;99;99");
+        Given.readLeftAndRight(x, "99,99,99,99,99,99", "99;99;99;99;99;99");
         due("due 2", x.result(0, 0, 2), INVALID);
         due("due -1", x.result(0, 0, -1), INVALID);
         due("row 1", x.result(1, 0, 0), INVALID);
@@ -520,7 +459,7 @@ public final class PromisesTest {
         due("at work", x.result(0, 0, 0), 117612);
     }
 
-    private static void count() {
+    static void count() {
         SkewedSquare x = new SkewedSquare();
         due("count(-1)", x.count(-1), INVALID);
         due("count(16)", x.count(16), INVALID);
@@ -545,23 +484,23 @@ public final class PromisesTest {
         counts("drained", x, 3, 4, 5, 6, 4, 1, 0, NOT_FOUND, NOT_FOUND, NOT_FOUND, NOT_FOUND, 24, 1, 2, 4, 1);
     }
 
-    private static void suspects() {
+    static void suspects() {
         SkewedSquare x = new SkewedSquare();
-        readLeftAndRight(x, "1,2;3,4;5,6", "1,2,3;4,5,6");
+        Given.readLeftAndRight(x, "1,2;3,4;5,6", "1,2,3;4,5,6");
         due("which 2", x.suspects(2), INVALID);
         due("which -1", x.suspects(-1), INVALID);
         due("rows, nothing known", x.suspects(0), 0);
         due("columns, nothing known", x.suspects(1), 0);
         x.fault(0, 0, 1);
-        doTile(x, 0, 0);
+        Given.doTile(x, 0, 0);
         due("rows not whole", x.suspects(0), 0);
         due("columns not whole", x.suspects(1), 0);
-        doTile(x, 1, 0);
+        Given.doTile(x, 1, 0);
         due("rows not whole", x.suspects(0), 0);
         due("a column that is whole", x.suspects(1), 1);
-        doTile(x, 0, 1);
+        Given.doTile(x, 0, 1);
         due("a row that is whole", x.suspects(0), 1);
-        doTile(x, 1, 1);
+        Given.doTile(x, 1, 1);
         due("rows", x.suspects(0), 5);
         due("columns", x.suspects(1), 5);
         x.fault(0, 0, 0);
@@ -570,9 +509,9 @@ public final class PromisesTest {
         due("columns, sound", x.suspects(1), 0);
     }
 
-    private static void suspectsMissWhatCancels() {
+    static void suspectsMissWhatCancels() {
         SkewedSquare x = new SkewedSquare();
-        readLeftAndRight(x, "1", "3,-3");
+        Given.readLeftAndRight(x, "1", "3,-3");
         x.fault(0, 0, 1);
         x.fault(0, 1, 1);
         x.all();
@@ -581,9 +520,9 @@ public final class PromisesTest {
         due("both columns", x.suspects(1), 3);
     }
 
-    private static void wouldBeWrong() {
+    static void wouldBeWrong() {
         SkewedSquare x = new SkewedSquare();
-        readLeftAndRight(x, "1,2;3,4", "5,6;7,8");
+        Given.readLeftAndRight(x, "1,2;3,4", "5,6;7,8");
         due("column 3", x.wouldBeWrong(3), INVALID);
         due("column -1", x.wouldBeWrong(-1), INVALID);
         due("far", x.wouldBeWrong(MOST), INVALID);
@@ -608,9 +547,9 @@ public final class PromisesTest {
         due("every tile", x.wouldBeWrong(0), 0);
     }
 
-    private static void best() {
+    static void best() {
         SkewedSquare x = new SkewedSquare();
-        readLeftAndRight(x, "1,2;3,4", "5,6;7,8");
+        Given.readLeftAndRight(x, "1,2;3,4", "5,6;7,8");
         due("all sound", x.best(), 2);
         x.fault(0, 0, 3);
         x.fault(1, 2, 1);
@@ -648,7 +587,7 @@ public final class PromisesTest {
         due("side 1, the first", x.best(), 0);
     }
 
-    private static void undo() {
+    static void undo() {
         SkewedSquare x = new SkewedSquare();
         due("empty", x.undo(), NOT_POSSIBLE);
         for (int value = 1; value <= 6; value++) {
@@ -674,9 +613,9 @@ public final class PromisesTest {
         due("entry", x.entry(0, 0, 0), 2);
     }
 
-    private static void undoOfEachChange() {
+    static void undoOfEachChange() {
         SkewedSquare x = new SkewedSquare();
-        readLeftAndRight(x, "1,2;3,4", "5,6;7,8");
+        Given.readLeftAndRight(x, "1,2;3,4", "5,6;7,8");
         x.fault(1, 1, 2);
         x.leave(0);
         x.all();
@@ -716,7 +655,7 @@ public final class PromisesTest {
         x.left(0, 0, 9);
         due("left", x.undo(), 0);
         due("known again", x.count(11), 4);
-        write(x, "1;2;3");
+        Given.write(x, "1;2;3");
         x.read(0);
         due("read", x.undo(), 0);
         due("rows", x.count(1), 2);
@@ -725,9 +664,9 @@ public final class PromisesTest {
         due("the text stays", x.count(15), 5);
     }
 
-    private static void undoBackIntoATile() {
+    static void undoBackIntoATile() {
         SkewedSquare x = new SkewedSquare();
-        readLeftAndRight(x, "1,2;3,4;5,6", "1,2,3;4,5,6");
+        Given.readLeftAndRight(x, "1,2;3,4;5,6", "1,2,3;4,5,6");
         x.begin(0, 0);
         x.tick(2);
         x.side(2);
@@ -747,7 +686,7 @@ public final class PromisesTest {
         due("none is wrong", x.count(12), 0);
     }
 
-    private static void type() {
+    static void type() {
         SkewedSquare x = new SkewedSquare();
         for (int wrong : new int[] {31, 127, -1, 0, 255, 65536 + 48, LEAST, MOST}) {
             due("type(" + wrong + ")", x.type(wrong), INVALID);
@@ -765,8 +704,8 @@ public final class PromisesTest {
         due("type again", x.type(48), 1);
     }
 
-    private static void clearText() {
-        SkewedSquare x = withText("1,2");
+    static void clearText() {
+        SkewedSquare x = Given.withText("1,2");
         due("clear", x.clearText(), 3);
         due("clear again", x.clearText(), 0);
         due("length", x.count(15), 0);
@@ -779,13 +718,13 @@ public final class PromisesTest {
     }
 
     private static void textIs(String text, int place, int reason) {
-        SkewedSquare x = withText(text);
+        SkewedSquare x = Given.withText(text);
         due("place in '" + text + "'", x.textFault(0), place);
         due("reason in '" + text + "'", x.textFault(1), reason);
         due("read of '" + text + "'", x.read(0) == NOT_POSSIBLE ? 1 : 0, place == NOT_FOUND ? 0 : 1);
     }
 
-    private static void textFaultReasonOne() {
+    static void textFaultReasonOne() {
         textIs("", 0, 1);
         textIs(" ", 0, 1);
         textIs(",", 0, 1);
@@ -813,10 +752,10 @@ public final class PromisesTest {
         textIs("1,2,3,4,5,6;x", 12, 1);
         due("textFault(2)", new SkewedSquare().textFault(2), INVALID);
         due("textFault(-1)", new SkewedSquare().textFault(-1), INVALID);
-        due("textFault(2) without a fault", withText("1").textFault(2), INVALID);
+        due("textFault(2) without a fault", Given.withText("1").textFault(2), INVALID);
     }
 
-    private static void textFaultReasonTwo() {
+    static void textFaultReasonTwo() {
         textIs("1,2,3,4,5,6,7", 11, 2);
         textIs("1,2,3,4,5,6,", 11, 2);
         textIs("1,2,3,4,5,6,,", 11, 2);
@@ -832,7 +771,7 @@ public final class PromisesTest {
         textIs("1,2;1,2;1,2;1,2;1,2;1;", 21, 2);
     }
 
-    private static void textWithoutFault() {
+    static void textWithoutFault() {
         textIs("0", NOT_FOUND, NOT_FOUND);
         textIs("-0", NOT_FOUND, NOT_FOUND);
         textIs("-00", NOT_FOUND, NOT_FOUND);
@@ -842,12 +781,12 @@ public final class PromisesTest {
         textIs("1,2,3,4,5,6;1,2,3,4,5,6;1,2,3,4,5,6;1,2,3,4,5,6;1,2,3,4,5,6;1,2,3,4,5,-6", NOT_FOUND, NOT_FOUND);
     }
 
-    private static void readLeft() {
+    static void readLeft() {
         SkewedSquare x = new SkewedSquare();
         x.right(0, 0, 5);
         x.right(1, 1, 6);
         x.all();
-        write(x, "-1,02;-30,4;0,-0");
+        Given.write(x, "-1,02;-30,4;0,-0");
         due("read(0)", x.read(0), 6);
         due("the text stays", x.count(15), 16);
         int[][] wants = {{-1, 2}, {-30, 4}, {0, 0}};
@@ -866,27 +805,27 @@ public final class PromisesTest {
         due("read(0) again", x.read(0), 6);
         due("nothing known", x.count(11), 0);
         due("the right one stays", x.entry(1, 1, 1), 6);
-        write(x, "7");
+        Given.write(x, "7");
         due("another inner length", x.read(0), 1);
         due("rows", x.count(1), 1);
         due("inner", x.count(2), 1);
         due("columns", x.count(3), 2);
         due("the right one is 0", x.entry(1, 0, 0), 0);
         due("the right one is short", x.entry(1, 1, 0), INVALID);
-        write(x, "1,2,3");
+        Given.write(x, "1,2,3");
         due("longer again", x.read(0), 3);
         due("the right one is 0", x.entry(1, 1, 1), 0);
         due("the right one is long", x.entry(1, 2, 1), 0);
     }
 
-    private static void readRight() {
+    static void readRight() {
         SkewedSquare x = new SkewedSquare();
         x.left(0, 0, 5);
         x.left(1, 1, 6);
         x.fault(0, 0, 1);
         x.leave(0);
         x.all();
-        write(x, "1,2,3;4,5,6");
+        Given.write(x, "1,2,3;4,5,6");
         due("read(1)", x.read(1), 6);
         due("rows", x.count(1), 2);
         due("inner", x.count(2), 2);
@@ -897,7 +836,7 @@ public final class PromisesTest {
         due("nothing known", x.count(11), 0);
         due("faults stay", x.count(13), 1);
         due("the left out one stays", x.count(5), 0);
-        write(x, "1,2;3,4;5,-6");
+        Given.write(x, "1,2;3,4;5,-6");
         due("another inner length", x.read(1), 6);
         due("inner", x.count(2), 3);
         due("columns", x.count(3), 2);
@@ -906,13 +845,13 @@ public final class PromisesTest {
         due("the left one is long", x.entry(0, 0, 2), 0);
         due("entry", x.entry(1, 2, 1), -6);
         x.left(0, 2, 7);
-        write(x, "1,2;3,4;5,6");
+        Given.write(x, "1,2;3,4;5,6");
         due("the same inner length", x.read(1), 6);
         due("the left one stays", x.entry(0, 0, 2), 7);
     }
 
-    private static void readRefused() {
-        SkewedSquare x = withText("1,2;3,4");
+    static void readRefused() {
+        SkewedSquare x = Given.withText("1,2;3,4");
         due("read(2)", x.read(2), INVALID);
         due("read(-1)", x.read(-1), INVALID);
         x.begin(0, 0);
@@ -930,19 +869,19 @@ public final class PromisesTest {
         due("entries stay", x.entry(1, 1, 1), 4);
     }
 
-    private static void orderOfErrors() {
+    static void orderOfErrors() {
         SkewedSquare x = new SkewedSquare();
         due("cell: wrong row before no tile", x.cellOf(2, 0, 1), INVALID);
         due("cell: no tile before nothing", x.cellOf(0, 0, 1), NOT_POSSIBLE);
         x.begin(0, 0);
         due("cell: nothing", x.cellOf(0, 0, 1), NOT_FOUND);
         due("result: wrong before unknown", x.result(0, 2, 0), INVALID);
-        due("textFault: wrong before none", withText("1").textFault(3), INVALID);
+        due("textFault: wrong before none", Given.withText("1").textFault(3), INVALID);
     }
 
-    private static void errorsChangeNothing() {
+    static void errorsChangeNothing() {
         SkewedSquare x = new SkewedSquare();
-        readLeftAndRight(x, "1,2;3,4", "5,6;7,8");
+        Given.readLeftAndRight(x, "1,2;3,4", "5,6;7,8");
         x.all();
         x.begin(0, 0);
         x.tick(1);
