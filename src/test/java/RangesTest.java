@@ -916,4 +916,46 @@ public final class RangesTest {
         due("products", x.cellOf(1, 1, 5), 2);
         due("drain again", x.drain(), 4);
     }
+
+    private static SkewedSquare shapeOfFourTiles() {
+        return Given.matrices(3, "1,2;3,4;5,6;7,8", "1,2,3,4,5;-1,-2,-3,-4,-5");
+    }
+
+    // Both tiles differ in all that a tile has: its row, its column, its rows and its columns.
+    static void undoRestoresATileBehindAnotherOne() {
+        SkewedSquare x = shapeOfFourTiles();
+        x.begin(0, 1);
+        x.tick(2);
+        Look before = Look.at(x);
+        x.side(3);
+        x.begin(1, 0);
+        due("undo of begin", x.undo(), 3);
+        due("undo of side", x.undo(), 2);
+        due("its row", x.count(7), 0);
+        due("its column", x.count(8), 1);
+        due("its ticks", x.count(9), 2);
+        due("ticks left", x.count(10), 3);
+        Look.dueSame("all of it", Look.at(x), before, false);
+        due("tick", x.tick(20), 0);
+        due("drain", x.drain(), 6);
+        due("its first entry", x.result(0, 3, 0), -4);
+        due("its last entry", x.result(2, 4, 0), -5);
+        due("none before it", x.result(0, 2, 0), NOT_FOUND);
+        due("none below it", x.result(3, 3, 0), NOT_FOUND);
+    }
+
+    static void undoRestoresATileBehindASmallerOne() {
+        SkewedSquare x = shapeOfFourTiles();
+        x.begin(0, 0);
+        x.tick(2);
+        x.side(3);
+        x.begin(1, 1);
+        x.undo();
+        x.undo();
+        due("ticks left", x.count(10), 4);
+        due("tick", x.tick(4), 0);
+        due("drain", x.drain(), 9);
+        due("none is wrong", x.count(12), 0);
+        due("its last entry", x.result(2, 2, 0), -3);
+    }
 }

@@ -1041,6 +1041,66 @@ public final class TermsTest {
         due("the first ones are unknown", x.suspects(1), 0);
     }
 
+    // Every entry comes from the one cell that is faulty, so all would be wrong.
+    private static SkewedSquare knownButOne(int rows, int columns, int unknown) {
+        SkewedSquare x = new SkewedSquare();
+        x.side(1);
+        x.shape(rows, 1, columns);
+        for (int i = 0; i < rows; i++) {
+            x.left(i, 0, 1);
+        }
+        for (int j = 0; j < columns; j++) {
+            x.right(0, j, 1);
+        }
+        x.fault(0, 0, 1);
+        for (int entry = 0; entry < rows * columns; entry++) {
+            if (entry != unknown) {
+                Given.doTile(x, entry / columns, entry % columns);
+            }
+        }
+        return x;
+    }
+
+    static void eachUnknownEntryKeepsItsRowAndColumnFromBeingSuspect() {
+        for (int[] shape : new int[][] {{2, 5}, {3, 3}, {5, 2}, {1, 6}, {6, 1}}) {
+            int rows = shape[0];
+            int columns = shape[1];
+            for (int unknown = 0; unknown < rows * columns; unknown++) {
+                SkewedSquare x = knownButOne(rows, columns, unknown);
+                String name = rows + " by " + columns + " without " + unknown;
+                due(name + ": rows", x.suspects(0), (1 << rows) - 1 - (1 << unknown / columns));
+                due(name + ": columns", x.suspects(1), (1 << columns) - 1 - (1 << unknown % columns));
+            }
+        }
+    }
+
+    static void soundSquareLeavesNothingSuspectInAnyShape() {
+        for (int shape = 0; shape < 216; shape++) {
+            SkewedSquare x = filled(1 + shape / 36, 1 + shape / 6 % 6, 1 + shape % 6);
+            x.all();
+            due("wrong in shape " + shape, x.count(12), 0);
+            due("rows of shape " + shape, x.suspects(0), 0);
+            due("columns of shape " + shape, x.suspects(1), 0);
+        }
+    }
+
+    private static SkewedSquare filled(int rows, int inner, int columns) {
+        SkewedSquare x = new SkewedSquare();
+        x.side(3);
+        x.shape(rows, inner, columns);
+        for (int i = 0; i < rows; i++) {
+            for (int p = 0; p < inner; p++) {
+                x.left(i, p, 1 + i + 7 * p);
+            }
+        }
+        for (int p = 0; p < inner; p++) {
+            for (int j = 0; j < columns; j++) {
+                x.right(p, j, 2 - 3 * p + 5 * j);
+            }
+        }
+        return x;
+    }
+
     static void rowIsNotSuspectIfItsWrongEntriesCancel() {
         SkewedSquare x = Given.matrices(2, "1", "3,-3");
         x.fault(0, 0, 1);

@@ -501,6 +501,40 @@ public final class TextsTest {
         due("due", x.result(2, 0, 1), 13);
     }
 
+    static void otherMatrixKeepsItsRowsOrColumnsIfItBecomes0() {
+        SkewedSquare x = Given.matrices(2, "1,2,3", "1,2,3,4,5;6,7,8,9,10;11,12,13,14,15");
+        Given.write(x, "1,2,3,4,5");
+        x.read(0);
+        due("inner length", x.count(2), 5);
+        due("columns", x.count(3), 5);
+        due("the right one is 0", x.entry(1, 0, 0), 0);
+        due("the right one's last", x.entry(1, 4, 4), 0);
+        Given.write(x, "1,2;3,4;5,6;7,8;9,10;11,12");
+        x.read(1);
+        due("rows", x.count(1), 1);
+        due("inner length", x.count(2), 6);
+        due("columns", x.count(3), 2);
+        due("the left one is 0", x.entry(0, 0, 0), 0);
+        due("the left one's last", x.entry(0, 0, 5), 0);
+        due("the left one has one row", x.entry(0, 1, 0), INVALID);
+    }
+
+    static void otherMatrixStaysInEveryShapeOfTheSameInnerLength() {
+        SkewedSquare x = Given.matrices(2, "1,2,3", "1,2,3,4,5;6,7,8,9,10;11,12,13,14,15");
+        Given.write(x, "1,2,3;4,5,6;7,8,9;0,0,1");
+        x.read(0);
+        due("rows", x.count(1), 4);
+        due("columns", x.count(3), 5);
+        due("the right one's last", x.entry(1, 2, 4), 15);
+        due("due", x.result(3, 4, 1), 15);
+        Given.write(x, "1;2;3");
+        x.read(1);
+        due("rows", x.count(1), 4);
+        due("columns", x.count(3), 1);
+        due("the left one's last", x.entry(0, 3, 2), 1);
+        due("due", x.result(3, 0, 1), 3);
+    }
+
     static void readIntoFewerRowsLeavesNoOldOnes() {
         SkewedSquare x = Given.matrices(2, "1,2;3,4;5,6", "1,2,3;4,5,6");
         Given.write(x, "9,9");
