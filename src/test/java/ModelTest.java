@@ -11,6 +11,9 @@ public final class ModelTest {
     private static final int LEAST_CALLS = 10;
     private static final int MOST_CALLS = 210;
     private static final int PROMISED_CALLS = 512;
+    // Every so many runs one takes all the calls that are promised; the others end with a look.
+    private static final int LONG_RUN_EVERY = 8;
+    private static final int MOST_AT_ONCE = 110;
     private static final String SIGNS = "0123456789,,,;;;-";
 
     private ModelTest() {
@@ -18,7 +21,12 @@ public final class ModelTest {
 
     public static void main(String[] args) {
         for (int run = 1; run <= RUNS && Check.wrongSoFar() == 0; run++) {
-            new Run(run).go();
+            Run next = new Run(run);
+            if (run % LONG_RUN_EVERY == 0) {
+                next.goToTheLastCall();
+            } else {
+                next.go();
+            }
         }
         Check.end();
     }
@@ -568,8 +576,43 @@ public final class ModelTest {
             }
             lookAtAll();
             Check.due("run " + number + ": more calls than are promised", Math.max(calls, PROMISED_CALLS), PROMISED_CALLS);
+            tellIfWrong();
+        }
+
+        // A text takes many calls at once: so the last ones are single.
+        void goToTheLastCall() {
+            while (calls < PROMISED_CALLS - MOST_AT_ONCE && Check.wrongSoFar() == 0) {
+                oneCall(below(100));
+            }
+            while (calls < PROMISED_CALLS) {
+                singleCall();
+            }
+            Check.due("run " + number + ": the calls that are promised", calls, PROMISED_CALLS);
+            tellIfWrong();
+        }
+
+        private void tellIfWrong() {
             if (Check.wrongSoFar() != 0) {
                 System.out.println("run " + number + ":" + told);
+            }
+        }
+
+        private void singleCall() {
+            int dice = below(6);
+            if (dice == 0) {
+                due("undo()", square.undo(), model.undo());
+            } else if (dice == 1) {
+                due("drain()", square.drain(), model.drain());
+            } else if (dice == 2) {
+                int many = around(1, 20);
+                due("tick(" + many + ")", square.tick(many), model.tick(many));
+            } else if (dice == 3) {
+                due("all()", square.all(), model.all());
+            } else if (dice == 4) {
+                typeOne();
+            } else {
+                int what = around(0, 15);
+                due("count(" + what + ")", square.count(what), model.count(what));
             }
         }
 
