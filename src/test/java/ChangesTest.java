@@ -771,4 +771,56 @@ public final class ChangesTest {
         Given.write(x, "9,9;9");
         return x;
     }
+
+    // ---- the 512 calls that an object is used for
+
+    static void lastCallOfOneKindOfChangeIsAnswered() {
+        SkewedSquare x = new SkewedSquare();
+        for (int call = 1; call <= PROMISED_CALLS; call++) {
+            due("call " + call, x.left(0, 1, call % 100), (call - 1) % 100);
+        }
+    }
+
+    static void lastUndoIsAnswered() {
+        SkewedSquare x = new SkewedSquare();
+        for (int call = 2; call <= PROMISED_CALLS; call += 2) {
+            due("leave before call " + call, x.leave(1), 2);
+            due("undo as call " + call, x.undo(), 0);
+        }
+    }
+
+    static void lastTileIsDrained() {
+        SkewedSquare x = new SkewedSquare();
+        for (int call = 4; call <= PROMISED_CALLS; call += 4) {
+            due("begin before call " + call, x.begin(0, 0), 4);
+            due("tick before call " + call, x.tick(1), 3);
+            due("tick before call " + call, x.tick(20), 0);
+            due("drain as call " + call, x.drain(), 4);
+        }
+    }
+
+    static void lastCharacterIsTyped() {
+        SkewedSquare x = new SkewedSquare();
+        for (int call = 1; call <= PROMISED_CALLS; call++) {
+            int length = (call - 1) % 82 + 1;
+            if (length == 82) {
+                due("clearText as call " + call, x.clearText(), 80);
+            } else {
+                due("type as call " + call, x.type('1'), length <= 80 ? length : LIMIT);
+            }
+        }
+    }
+
+    static void lastBestAndReadAreAnswered() {
+        SkewedSquare x = Given.fourTiles();
+        int calls = 100;
+        x.fault(0, 0, 1);
+        while (calls < PROMISED_CALLS - 3) {
+            due("best", x.best(), 0);
+            due("wouldBeWrong", x.wouldBeWrong(2), 4);
+            due("read", x.read(1), 6);
+            due("all", x.all(), 12);
+            calls += 4;
+        }
+    }
 }
